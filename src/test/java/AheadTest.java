@@ -80,6 +80,7 @@ public final class AheadTest {
         Check.due("in two days all are even", 0, x.luckiest(2));
         Check.due("in 60 days", 0, x.luckiest(60));
         Check.due("losers have a luckiest too", 1, Texts.told("town 0 0 0 9;town 0 0 0 8;odds 0;").luckiest(9));
+        Check.due("the last one", 2, Texts.told("town 0 0 0 3;town 0 0 0 2;town 0 0 0 1;odds 0;").luckiest(3));
         x.days(1);
         Check.due("what is WON by now counts", 1, x.luckiest(0));
         Check.due("no towns", NONE, new LuckCrates().luckiest(60));
@@ -153,6 +154,8 @@ public final class AheadTest {
         LuckCrates x = Texts.told("town 0 0 0 5;town 0 0 0 1;odds (day = 2) * 7;");
         Check.due("least less", 1, x.day(2, 0));
         Check.due("by", -6, x.day(2, 1));
+        Check.due("of one day", 1, x.day(1, 0));
+        Check.due("by that", -6, x.day(1, 1));
         Check.due("most more", 3, x.day(3, 0));
         Check.due("by so much", 6, x.day(3, 1));
         Check.due("in 60", 3, x.day(60, 0));

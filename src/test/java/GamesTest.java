@@ -29,6 +29,8 @@ public final class GamesTest {
         plays("town 100 0 0 1;town 100 0 0 3;odds 7 * (luck < 95) * (stake = 3);", 3, 1);
         plays("town 99 0 0 1;town 9 0 0 1;odds 7 * (89 < luck and luck < 91);", 2, 10);
         plays("town 9 0 0 1;town 99 0 0 1;odds 7 * (89 < luck and luck < 91);", 2, 1);
+        plays("town 109 0 0 1;town 0 0 0 1;odds 7 * (luck = 99);", 2, 10);
+        plays("town 109 0 0 1;town 20 0 0 1;odds 7 * (luck = 28 or luck = 101);", 2, 0);
         LuckCrates x = Texts.told("town 0 0 0 0;town 99 0 0 1;town 9 0 0 1;odds 7 * (89 < luck and luck < 91);");
         Check.due("told from the other end", 1, x.game(2, 1, 1));
         Check.due("and from this one", 10, x.game(1, 2, 1));
@@ -104,6 +106,13 @@ public final class GamesTest {
         Check.noSuch("no such thing", () -> x.years(0, 1, 3));
         Check.noSuch("no such thing below", () -> x.years(0, 1, -1));
         Check.noSuch("ahead of days", () -> x.years(0, 61, 3));
+        // The seed 2 steals nothing on the first days; less than 12 is always drawn.
+        LuckCrates moving = Texts.told("town 0 0 0 1;town 0 0 0 1;way 0 1 2 0;crate 5 0;odds crates * 12;");
+        moving.send(0, 0);
+        Check.due("on its way", -2, moving.years(2, 1, 0));
+        Check.due("it comes", -2, moving.years(2, 2, 0));
+        Check.due("it lies there", -2, moving.years(2, 3, 0));
+        Check.due("by the DAY", 1, Texts.told("town 0 0 0 1;odds day * 12;").years(2, 3, 0));
         LuckCrates most = Texts.told("town 999 0 20 20;crate 1 0;odds 0;");
         most.days(30);
         Check.due("from now on", -20 * 60, most.years(3, 30, 0));
@@ -146,6 +155,31 @@ public final class GamesTest {
         Check.due("in place of the other one", 5, x.count(3));
     }
 
+    private static void imageOfManyActs() {
+        LuckCrates x = Texts.told("town 10 0 0 0;town 20 0 0 0;odds 0;");
+        for (int i = 0; i < 45; i++) {
+            x.days(1);
+        }
+        x.see(1, 3, 20);
+        x.image();
+        for (int i = 0; i < 7; i++) {
+            x.days(2);
+        }
+        x.forget();
+        x.see(0, 4, 11);
+        Check.due("it isn't so", 0, x.opened(2));
+        x.restore();
+        Check.due("it is so again", 1, x.opened(2));
+        for (int i = 39; i >= 0; i--) {
+            Check.due("left of the image's acts", i, x.undo());
+            Check.due("its DAY", 5 + i, x.count(3));
+        }
+        Check.due("no more", NONE, x.undo());
+        x.restore();
+        Check.due("once more", 39, x.undo());
+        Check.due("the DAY once more", 44, x.count(3));
+    }
+
     private static void imageOfActs() {
         LuckCrates x = Texts.told(StateTest.LAND);
         x.days(1);
@@ -172,7 +206,13 @@ public final class GamesTest {
         x.forget();
         x.restore();
         Check.due("what is seen is kept", 1, x.count(11));
-        new LuckCrates().image();
+        x.see(1, 2, 3);
+        x.forget();
+        x.see(2, 0, 9999);
+        x.restore();
+        Check.due("just what was seen", 1, x.count(11));
+        Check.due("and all of it", 1, Texts.told(StateTest.LAND).opened(2));
+        imageOfManyActs();
         LuckCrates empty = new LuckCrates();
         empty.image();
         empty.days(3);

@@ -94,6 +94,9 @@ public final class OddsTest {
         Check.due("ODDS in a day", 7, x.then(0, 1, 3));
         x.days(1);
         Check.due("ODDS on DAY 1", 7, x.town(0, 5));
+        LuckCrates each = Texts.told("town 1 2 3 4;town 5 6 7 8;crate 1 1;odds luck + bad * (luck = 5) - stake + makes - crates;");
+        Check.due("of the first town", 0, each.town(0, 5));
+        Check.due("of the second town", 9, each.town(1, 5));
         LuckCrates y = Texts.told("town 0 0 0 1;town 0 0 0 1;way 0 1 2 0;crate 1 0;odds crates * 7;");
         y.send(0, 0);
         y.days(1);

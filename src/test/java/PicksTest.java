@@ -37,6 +37,9 @@ public final class PicksTest {
         Check.due("of as few the least as bits", 3, y.sending(0, 8));
         Check.due("the two greatest", 5, y.sending(0, 9));
         Check.due("all", 15, y.sending(0, 16));
+        LuckCrates cats = Texts.told("town 0 0 0 0;town 0 0 0 0;way 0 1 9 9;crate 90 0;crate 90 0;crate 80 0 cat;");
+        Check.due("a cat where the leak is great", 4, cats.sending(1, 80));
+        Check.due("and what is left", 5, cats.sending(1, 89));
         LuckCrates z = Texts.told("town 0 0 0 0;" + "crate 99 0;".repeat(10));
         Check.due("ten", 1023, z.sending(0, 990));
         Check.due("no more", NONE, z.sending(0, 991));
@@ -104,6 +107,7 @@ public final class PicksTest {
         Check.noSuch("ahead of grains", () -> x.thief(-1, -1));
         LuckCrates y = Texts.told("town 0 0 0 0;crate 20 0;crate 10 0;crate 20 0;crate 10 0;");
         Check.due("of like ones the least as bits", 1, y.thief(0, 20));
+        Check.due("one grain", 1, Texts.told("town 0 0 0 0;crate 1 0;").thief(0, 1));
         Check.due("of two", 3, y.thief(0, 30));
         Check.due("the fewest", 5, y.thief(0, 40));
     }
@@ -127,6 +131,8 @@ public final class PicksTest {
         levels("town 40 40 0 0;", 0);
         levels("town 10 40 0 0;town 0 0 0 0;crate 30 1;crate 20 0;", 2);
         LuckCrates x = Texts.told("town 10 40 0 0;town 0 0 0 0;way 0 1 1 0;crate 30 0;crate 20 0;crate 10 0;");
+        LuckCrates y = Texts.told("town 900 0 0 0;town 10 40 0 0;crate 20 1;crate 30 1;ballast 99 0;");
+        Check.due("of another town", 2, y.level(1));
         x.send(0, 0);
         Check.due("none that is on a way", 6, x.level(0));
         x.open(1);

@@ -81,9 +81,13 @@ public final class SeenTest {
         Check.noSuch("no such thing below", () -> x.opened(-1));
         openings(new LuckCrates(), 0, NONE, 1);
         LuckCrates y = Texts.told(STILL);
+        openings(y, 30, 0, 1);
         y.send(0, 0);
+        openings(y, 20, 10, 1);
         y.open(1);
         openings(y, 10, 20, 1);
+        y.open(2);
+        openings(y, 0, NONE, 1);
     }
 
     /** On a day: ahead of what it does, behind an opening on it. */
@@ -150,6 +154,8 @@ public final class SeenTest {
         nexts(Texts.told("town 0 0 0 0;crate 0 0;odds 0;"), 0, 1);
         nexts(Texts.told("town 9 0 0 0;ballast 5 0;odds 0;"), 1, 2);
         nexts(Texts.told("town 0 0 0 1;crate 30 0;odds (0 < luck) * 7;"), 8, 10);
+        nexts(Texts.told("town 0 0 0 20;ballast 5 0;ballast 7 0;odds (day < 29) * 7;"), 30, 2);
+        nexts(Texts.told("town 0 0 0 20;ballast 5 0;ballast 7 0;odds (day < 30) * 7;"), 0, 1);
         LuckCrates late = Texts.told("town 0 0 0 2;crate 1 0;odds (day = 29) * (crates = 1) * 7;");
         late.see(0, 0, 0);
         nexts(late, 1, 2);

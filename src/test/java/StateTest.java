@@ -71,6 +71,8 @@ public final class StateTest {
         x.send(0, 0);
         Check.due("the town to which it goes", 1, x.crate(0, 3));
         Check.due("DAYS to go", 2, x.crate(0, 4));
+        x.send(3, 1);
+        Check.due("DAYS to go of another one", 1, x.crate(3, 4));
         x.open(2);
         Check.due("an opened one is empty", 0, x.crate(2, 0));
         Check.due("and gone", LuckCrates.NONE, x.crate(2, 3));
@@ -266,6 +268,13 @@ public final class StateTest {
         Check.due("both on a way", LuckCrates.NONE, x.mix(0, 1));
         x.open(2);
         Check.due("gone", LuckCrates.NONE, x.mix(2, 2));
+        LuckCrates y = Texts.told("town 0 0 0 0;town 0 0 0 0;way 0 1 2 0;crate 1 1;ballast 5 1;crate 2 0;crate 9 1;");
+        y.send(2, 0);
+        Check.due("one that goes where the other lies", LuckCrates.NONE, y.mix(2, 0));
+        Check.due("one that lies where the other goes", LuckCrates.NONE, y.mix(0, 2));
+        Check.due("not the first two", 4, y.mix(3, 1));
+        Check.due("its sort", 0, y.crate(3, 1));
+        Check.due("mixed on", 5, y.mix(3, 0));
         Check.due("refused", 6, x.count(14));
         Check.due("kept", 3, x.count(10));
         x.days(2);

@@ -7,6 +7,7 @@ public final class TextTest {
         feed();
         province();
         provinceAnew();
+        provinceAgainAndAgain();
         provinceFaultKeepsAll();
         wholeTexts();
         faultsOfTokens();
@@ -25,6 +26,8 @@ public final class TextTest {
             Check.due("count(" + what + ") of a new object", 0, x.count(what));
         }
         Check.due("fault() of a new object", LuckCrates.NONE, x.fault());
+        Check.due("restore() of a new object", false, x.restore());
+        Check.due("undo() of a new object", LuckCrates.NONE, x.undo());
         Check.noSuch("town(0, 0) of a new object", () -> new LuckCrates().town(0, 0));
         Check.noSuch("crate(0, 0) of a new object", () -> new LuckCrates().crate(0, 0));
         Check.noSuch("bridge(0) of a new object", () -> new LuckCrates().bridge(0));
@@ -96,6 +99,26 @@ public final class TextTest {
         Check.due("no crates", 0, x.count(2));
     }
 
+    /** What was told ahead, well or not, leaves nothing in what is told behind it. */
+    private static void provinceAgainAndAgain() {
+        LuckCrates x = Texts.told("town 9 8 7 6;town 5 4 3 2;way 0 1 3 1;crate 9 1 cat;ballast 7 0;odds crates;");
+        Texts.province(x, "odds 5;town 1 1 1 1;town 1 1 1 1;way 0 1 2 2;ballast 5 1 cat;odds");
+        for (int i = 0; i < 3; i++) {
+            Check.due("told anew", 0, Texts.province(x, "town 50 0 0 5;town 1 1 0 0;crate 6 1;"));
+            Check.due("no ways", 0, x.count(1));
+            Check.due("no way to it", LuckCrates.NONE, x.far(0, 1));
+            Check.due("one crate", 1, x.count(2));
+            Check.due("of luck", 0, x.crate(0, 1));
+            Check.due("without a cat", 0, x.crate(0, 2));
+            Check.due("no rule", 11, x.town(0, 5));
+            Check.due("told with a rule", 0, Texts.province(x, "town 9 9 9 9;odds 1 + 2;"));
+            Check.due("the rule", 3, x.town(0, 5));
+            Check.due("told with another rule", 0, Texts.province(x, "odds crates + 4;town 9 9 9 9;crate 1 0;"));
+            Check.due("the other rule", 5, x.town(0, 5));
+            Check.due("a FAULT behind much", 1, Texts.province(x, "town 1 1 1 1;town 1 1 1 1;way 0 1 1 1;odds 9;crate 9 0 cat;?"));
+        }
+    }
+
     private static void provinceFaultKeepsAll() {
         LuckCrates x = Texts.told("town 9 8 7 6;town 5 4 3 2;way 0 1 3 1;crate 9 1 cat;ballast 7 0;odds 3;");
         x.days(1);
@@ -157,6 +180,8 @@ public final class TextTest {
         fault("Town 0 0 0 0;", 1, 0);
         fault("towns 0 0 0 0;", 1, 0);
         fault("tow n 0 0 0 0;", 1, 0);
+        fault("xown 0 0 0 0;", 1, 0);
+        fault("townz 0 0 0 0;", 1, 0);
         fault("luck;", 1, 0);
         fault("7;", 1, 0);
         fault("12345;", 1, 0);
@@ -218,6 +243,7 @@ public final class TextTest {
         fault(TWO + "crate cat;", 1, 32);
         fault(TWO + "crate 5 0 cats;", 1, 36);
         fault(TWO + "crate 5 0 dog;", 1, 36);
+        fault(TWO + "crate 5 0 catz;", 1, 36);
         fault(TWO + "crate 5 0 cat cat;", 1, 40);
         fault(TWO + "crate 5 0 1;", 1, 36);
     }
@@ -232,6 +258,10 @@ public final class TextTest {
         fault("odds 1 or;", 1, 9);
         fault("odds 1 or", 1, 9);
         fault("odds 1 or and;", 3, 10);
+        fault("odds 1 and;", 1, 10);
+        fault("odds 1 and or;", 3, 11);
+        fault("odds 1 and 12345;", 2, 11);
+        fault("odds luckz;", 3, 5);
         fault("odds 1 + not 1;", 3, 9);
         fault("odds 1 * not 1;", 3, 9);
         fault("odds 1 < not 1;", 3, 9);

@@ -64,6 +64,10 @@ public final class WaysTest {
         Check.noSuch("no row from there", () -> x.row(4, 0, 0));
         Check.noSuch("no such town", () -> x.row(5, 0, 0));
         Check.noSuch("no such other town", () -> x.row(0, 5, 0));
+        Check.noSuch("no such town below", () -> x.row(-1, 0, 0));
+        Check.noSuch("no such other town below", () -> x.row(0, -1, 0));
+        Check.noSuch("no such town by far", () -> x.row(Integer.MAX_VALUE, 0, 0));
+        Check.noSuch("no such other town by far", () -> x.row(0, Integer.MAX_VALUE, 0));
         rows(Texts.told(FOUR + "way 0 1 1 0;way 1 3 1 0;way 0 2 1 0;way 2 3 1 0;"), 0, 3, 0, 1, 3);
         rows(Texts.told(FOUR + "way 0 1 1 0;way 1 3 2 0;way 0 2 1 0;way 2 3 1 0;"), 0, 3, 0, 2, 3);
     }
