@@ -30,9 +30,8 @@ public final class LuckCrates {
     private static final int REFUSED_ACTS = 1;
     private static final int REFUSED_SEEN = 2;
 
-    private final byte[] tape = new byte[MOST_BYTES];
+    private final Reader reader = new Reader();
     private int tapeLength = 0;
-    private final Reader reader = new Reader(tape);
     private Land land = new Land();
     private final State now = new State();
     private final State trial = new State();
@@ -218,7 +217,9 @@ public final class LuckCrates {
         }
         needWithin(days, 0, MOST_DAYS_AHEAD);
         trial.take(now);
-        trial.passTownDays(land, town, days);
+        for (int i = 0; i < days; i++) {
+            trial.passTown(land, town);
+        }
         switch (what) {
             case 0: return trial.cells[State.LUCK + town];
             case 1: return trial.cells[State.BAD + town];
@@ -543,8 +544,8 @@ public final class LuckCrates {
 
     private void feedNumber(int number) {
         for (int shift = 24; shift >= 0; shift -= 8) {
-            if (tapeLength < tape.length) {
-                tape[tapeLength] = (byte) (number >> shift);
+            if (tapeLength < MOST_BYTES) {
+                reader.tape[tapeLength] = (byte) (number >> shift);
                 tapeLength++;
             }
         }
@@ -606,7 +607,9 @@ public final class LuckCrates {
         int given = yourChoice * (now.cells[State.LUCK + yours] / 10);
         trial.take(now);
         trial.cells[State.LUCK + mine] = Math.min(MOST_LUCK, kept + given);
-        trial.passTownDays(land, mine, GAME_DAYS);
+        for (int i = 0; i < GAME_DAYS; i++) {
+            trial.passTown(land, mine);
+        }
         return trial.cells[State.WON + mine];
     }
 
@@ -841,12 +844,6 @@ public final class LuckCrates {
             return wins;
         }
 
-        void passTownDays(Land land, int town, int days) {
-            for (int i = 0; i < days; i++) {
-                passTown(land, town);
-            }
-        }
-
         void passDayByDraws(Land land, Draws draws) {
             moveCrates(land.crates);
             for (int t = 0; t < land.towns; t++) {
@@ -858,7 +855,9 @@ public final class LuckCrates {
         }
 
         int wonIn(Land land, int days) {
-            passDays(land, days);
+            for (int i = 0; i < days; i++) {
+                passDay(land);
+            }
             return sum(WON, land.towns);
         }
     }
@@ -1536,7 +1535,7 @@ public final class LuckCrates {
         static final int MOST_DEEP = 6;
         static final int MOST_NOTS = 6;
 
-        final byte[] text;
+        final byte[] tape = new byte[MOST_BYTES];
         int textLength = 0;
         int start = 0;
         int end = 0;
@@ -1547,12 +1546,9 @@ public final class LuckCrates {
         int fault = 0;
         int place = NONE;
 
-        Reader(byte[] tape) {
-            text = tape;
-        }
-
+        /** Reads the tape's first bytes. */
         void read(int length) {
-            textLength = Math.min(length, text.length);
+            textLength = Math.min(length, MOST_BYTES);
             land.clear();
             end = 0;
             fault = 0;
@@ -1574,32 +1570,26 @@ public final class LuckCrates {
 
         void advance() {
             start = end;
-            while (start < textLength && (text[start] == ' ' || text[start] == '\n')) {
+            while (start < textLength && (tape[start] == ' ' || tape[start] == '\n')) {
                 start++;
             }
             end = start;
             if (start >= textLength) {
                 kind = END;
-            } else if (isLetter(text[start])) {
+            } else if (isLetter(tape[start])) {
                 kind = WORD;
-                while (end < textLength && isLetter(text[end])) {
+                while (end < textLength && isLetter(tape[end])) {
                     end++;
                 }
-            } else if (isDigit(text[start])) {
+            } else if (isDigit(tape[start])) {
                 kind = NUMBER;
-                scanNumber();
-            } else {
-                kind = isSign(text[start]) ? SIGN : STRANGE;
-                end++;
-            }
-        }
-
-        void scanNumber() {
-            number = 0;
-            while (end < textLength && isDigit(text[end])) {
-                if (end - start < MOST_DIGITS) {
-                    number = number * 10 + (text[end] - '0');
+                number = 0;
+                while (end < textLength && isDigit(tape[end])) {
+                    number = isTooLong() ? number : number * 10 + (tape[end] - '0');
+                    end++;
                 }
+            } else {
+                kind = isSign(tape[start]) ? SIGN : STRANGE;
                 end++;
             }
         }
@@ -1618,7 +1608,7 @@ public final class LuckCrates {
         }
 
         boolean isMark(char sign) {
-            return kind == SIGN && text[start] == sign;
+            return kind == SIGN && tape[start] == sign;
         }
 
         boolean isWord(String word) {
@@ -1626,7 +1616,7 @@ public final class LuckCrates {
                 return false;
             }
             for (int i = 0; i < word.length(); i++) {
-                if (text[start + i] != word.charAt(i)) {
+                if (tape[start + i] != word.charAt(i)) {
                     return false;
                 }
             }

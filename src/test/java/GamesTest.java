@@ -180,6 +180,19 @@ public final class GamesTest {
         Check.due("the DAY once more", 44, x.count(3));
     }
 
+    private static void imageOfSeenDays() {
+        LuckCrates x = Texts.told("town 0 0 10 0;odds 0;");
+        x.see(0, 3, 30);
+        x.see(0, 5, 50);
+        x.image();
+        x.forget();
+        x.see(0, 2, 30);
+        x.see(0, 1, 50);
+        Check.due("it isn't so", 0, x.opened(2));
+        x.restore();
+        Check.due("the days of the image", 1, x.opened(2));
+    }
+
     private static void imageOfActs() {
         LuckCrates x = Texts.told(StateTest.LAND);
         x.days(1);
@@ -213,6 +226,7 @@ public final class GamesTest {
         Check.due("just what was seen", 1, x.count(11));
         Check.due("and all of it", 1, Texts.told(StateTest.LAND).opened(2));
         imageOfManyActs();
+        imageOfSeenDays();
         LuckCrates empty = new LuckCrates();
         empty.image();
         empty.days(3);

@@ -26,9 +26,8 @@ public final class LanguageTest {
 
     private static void nothingOf(String code) {
         List<String> ruledOut = List.of("->", "::", "\\btry\\b", "\\bcatch\\b", "\\bfinally\\b", "\\bsynchronized\\b",
-                "\\bassert\\b", "\\bpackage\\b", "\\bprotected\\b", "\\bdouble\\b", "\\bfloat\\b", "Exact\\b",
-                "\\bThread\\b", "\\bRandom\\b", "\\bObject\\b", "\\binstanceof\\b", "\\bstatic\\s*\\{", "\"\"\\s*\\+", "\\+\\s*\"\"",
-                "\\]\\s*\\[", "while \\(true\\)", "\\bnull\\b", "\\bvar\\b", "\\bgoto\\b", "\\bnative\\b", "\\bvolatile\\b");
+                "\\bassert\\b", "\\bpackage\\b", "\\bprotected\\b", "Exact\\b", "\\bThread\\b", "\\bRandom\\b", "\\bObject\\b",
+                "\\bstatic\\s*\\{", "\"\"\\s*\\+", "\\+\\s*\"\"", "while \\(true\\)", "\\bvar\\b", "\\bnative\\b", "\\bvolatile\\b");
         for (String sign : ruledOut) {
             Check.due("none of " + sign, false, Pattern.compile(sign).matcher(code).find());
         }

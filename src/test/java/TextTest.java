@@ -8,6 +8,7 @@ public final class TextTest {
         province();
         provinceAnew();
         provinceAgainAndAgain();
+        manyRules();
         provinceFaultKeepsAll();
         wholeTexts();
         faultsOfTokens();
@@ -117,6 +118,15 @@ public final class TextTest {
             Check.due("the other rule", 5, x.town(0, 5));
             Check.due("a FAULT behind much", 1, Texts.province(x, "town 1 1 1 1;town 1 1 1 1;way 0 1 1 1;odds 9;crate 9 0 cat;?"));
         }
+    }
+
+    private static void manyRules() {
+        LuckCrates x = new LuckCrates();
+        for (int i = 0; i < 90; i++) {
+            Texts.province(x, "odds 1 + 1;");
+        }
+        Check.due("one rule more", 0, Texts.province(x, "town 0 0 0 0;odds 9;"));
+        Check.due("it alone counts", 9, x.town(0, 5));
     }
 
     private static void provinceFaultKeepsAll() {
