@@ -599,7 +599,8 @@ public final class LuckCrates {
 
     /** Whether the town called mine wins no more by its other choice, the other town keeping to its own. */
     private boolean rests(int mine, int yours, int myChoice, int yourChoice) {
-        return wonInGame(mine, yours, myChoice, yourChoice) >= wonInGame(mine, yours, 1 - myChoice, yourChoice);
+        int asChosen = wonInGame(mine, yours, myChoice, yourChoice);
+        return asChosen >= wonInGame(mine, yours, 1 - myChoice, yourChoice);
     }
 
     private int wonInGame(int mine, int yours, int myChoice, int yourChoice) {
@@ -1342,7 +1343,7 @@ public final class LuckCrates {
             return alike ? 0 : Math.min(state.cells[State.GRAINS + crate], state.cells[State.GRAINS + other]);
         }
 
-        /** The i-th crate of the first row with least harm: the least crate each time that still allows it. */
+        /** The i-th crate of the first row with least harm: each time the least crate that allows it. */
         static int inHold(State state, int mask, int i) {
             int rest = mask;
             int allowed = leastHarm(state, mask);
