@@ -39,6 +39,14 @@ final class Check {
         System.out.println(what);
     }
 
+    static int asked() {
+        return asked;
+    }
+
+    static int wrong() {
+        return wrong;
+    }
+
     /** The last line of a test's main. */
     static void end() {
         System.out.println(asked + " asked, " + wrong + " wrong");
