@@ -153,7 +153,8 @@ final class EdgesOfPicks {
 
     private static void thief() {
         Edges.term("A THIEF in a TOWN who carries so many GRAINS (0 to 999) takes CRATES of LUCK that lie closed there, "
-                + "of no more GRAINS than that together, that have most, together: of like ones the fewest, then the least as bits.", () -> {
+                + "of no more GRAINS than that together, that have most, together: "
+                + "of like ones the fewest, then the least as bits.", () -> {
             LuckCrates x = Texts.told(TWO + "way 0 1 9 0;crate 0 0;crate 20 0;crate 10 0;crate 20 0 cat;crate 10 0;"
                     + "ballast 5 0;crate 30 0;crate 1 1;");
             int[][] due = {{0, 0}, {9, 0}, {10, 4}, {19, 4}, {20, 2}, {29, 2}, {30, 64}, {39, 64}, {40, 10}, {49, 10}, {50, 66},

@@ -5,7 +5,6 @@ final class EdgesOfSeen {
     private static final int MOST = Integer.MAX_VALUE;
     private static final String STILL = "town 0 0 0 0;";
     private static final String TEN_MORE = "town 0 0 10 0;crate 5 0;odds 0;";
-
     private static final String EIGHT = "town 1 0 1 0;".repeat(8) + "crate 5 0;".repeat(5) + "crate 5 7;".repeat(5) + "odds 0;";
 
     private EdgesOfSeen() {
